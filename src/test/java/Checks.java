@@ -1,0 +1,66 @@
+/** Compares answers with those that are due, and ends the test program by its exit code. */
+final class Checks {
+    /** A call of the face whose answer or exception is looked at. */
+    interface Call {
+        int answer();
+    }
+
+    private final String test;
+    private int right;
+    private int wrong;
+
+    Checks(String test) {
+        this.test = test;
+    }
+
+    void due(String what, int due, int got) {
+        if (due == got) {
+            right++;
+        } else {
+            report(what + " answered " + got + ", due is " + due);
+        }
+    }
+
+    void holds(String what, boolean fact) {
+        if (fact) {
+            right++;
+        } else {
+            report(what + " does not hold");
+        }
+    }
+
+    /** The exception has to be of this very class: one of a class below it comes from the machine. */
+    void dueThrow(String what, Class<? extends RuntimeException> due, Call call) {
+        try {
+            report(what + " answered " + call.answer() + ", due is " + due.getSimpleName());
+        } catch (RuntimeException thrown) {
+            holds(what + " throws " + due.getSimpleName() + ", not " + thrown, thrown.getClass() == due);
+        }
+    }
+
+    void indexThrow(String what, Call call) {
+        dueThrow(what, IndexOutOfBoundsException.class, call);
+    }
+
+    void argumentThrow(String what, Call call) {
+        dueThrow(what, IllegalArgumentException.class, call);
+    }
+
+    void stateThrow(String what, Call call) {
+        dueThrow(what, IllegalStateException.class, call);
+    }
+
+    void end() {
+        System.out.println(test + ": " + right + " checks right, " + wrong + " wrong");
+        if (wrong != 0 || right == 0) {
+            System.exit(1);
+        }
+    }
+
+    private void report(String line) {
+        wrong++;
+        if (wrong <= 40) {
+            System.out.println(test + ": " + line);
+        }
+    }
+}
