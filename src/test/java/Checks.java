@@ -6,6 +6,8 @@ final class Checks {
     }
 
     private final String test;
+    private String sentence = "";
+    private boolean sentenceChecked = true;
     private int right;
     private int wrong;
 
@@ -13,9 +15,16 @@ final class Checks {
         this.test = test;
     }
 
+    /** The checks that follow are those of this sentence of the document; it has to have one. */
+    void sentence(String words) {
+        requireSentenceChecked();
+        sentence = "\"" + words + "\": ";
+        sentenceChecked = false;
+    }
+
     void due(String what, int due, int got) {
         if (due == got) {
-            right++;
+            countRight();
         } else {
             report(what + " answered " + got + ", due is " + due);
         }
@@ -23,7 +32,7 @@ final class Checks {
 
     void holds(String what, boolean fact) {
         if (fact) {
-            right++;
+            countRight();
         } else {
             report(what + " does not hold");
         }
@@ -51,16 +60,29 @@ final class Checks {
     }
 
     void end() {
+        requireSentenceChecked();
         System.out.println(test + ": " + right + " checks right, " + wrong + " wrong");
         if (wrong != 0 || right == 0) {
             System.exit(1);
         }
     }
 
+    private void requireSentenceChecked() {
+        if (!sentenceChecked) {
+            report("no check");
+        }
+    }
+
+    private void countRight() {
+        right++;
+        sentenceChecked = true;
+    }
+
     private void report(String line) {
         wrong++;
+        sentenceChecked = true;
         if (wrong <= 40) {
-            System.out.println(test + ": " + line);
+            System.out.println(test + ": " + sentence + line);
         }
     }
 }

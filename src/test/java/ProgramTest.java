@@ -19,21 +19,8 @@ public final class ProgramTest {
         test.checks.end();
     }
 
-    private static NimberField typed(String program) {
-        NimberField x = new NimberField();
-        retype(x, program);
-        return x;
-    }
-
-    private static void retype(NimberField x, String program) {
-        x.clearProgram();
-        for (int index = 0; index < program.length(); index++) {
-            x.type(program.charAt(index));
-        }
-    }
-
     private void dueError(String program, int due) {
-        NimberField x = typed(program);
+        NimberField x = Given.program(program);
         checks.due("programError of " + program, due, x.programError());
         checks.due("programError again of " + program, due, x.programError());
         if (due != NimberField.NONE) {
@@ -123,7 +110,7 @@ public final class ProgramTest {
             dueError("A=" + number, NimberField.NONE);
             dueError("A=~" + number, NimberField.NONE);
             dueError("A=" + number + "+" + number + ";B=" + number, NimberField.NONE);
-            checks.due("A=" + number, Integer.parseInt(number), typed("A=" + number).carryOut());
+            checks.due("A=" + number, Integer.parseInt(number), Given.program("A=" + number).carryOut());
         }
         dueError("A=05", 3);
         dueError("A=00", 3);
@@ -150,7 +137,7 @@ public final class ProgramTest {
             "0123456789;"};
         for (int length = 0; length <= program.length(); length++) {
             for (char character = 0; character < 300; character++) {
-                NimberField x = typed(program.substring(0, length) + character);
+                NimberField x = Given.program(program.substring(0, length) + character);
                 boolean fits = allowed[length].indexOf(character) >= 0;
                 int error = x.programError();
                 checks.holds("character " + (int) character + " at " + length,
@@ -169,29 +156,29 @@ public final class ProgramTest {
         dueError(fourteen + "A=1A", 59);
         dueError(fourteen + "A==1", 58);
         dueError("A=12345+12345;".repeat(4) + "A=~~", 59);
-        NimberField x = typed("A=A+1;".repeat(9) + "B=~A;C");
+        NimberField x = Given.program("A=A+1;".repeat(9) + "B=~A;C");
         checks.due("programError", 60, x.programError());
-        NimberField fifteen = typed("B=1;".repeat(13) + "A=0;A=~A");
+        NimberField fifteen = Given.program("B=1;".repeat(13) + "A=0;A=~A");
         checks.due("length", 60, fifteen.clearProgram());
-        retype(fifteen, "B=1;".repeat(13) + "A=0;A=~A");
+        Given.retype(fifteen, "B=1;".repeat(13) + "A=0;A=~A");
         checks.due("trappedStep", 14, fifteen.trappedStep());
-        retype(fifteen, "A=1;B=A+2;C=B+4;D=C+8;E=D;F=E;G=F;H=G;A=H;B=A;C=B;D=C;E=D;HH");
+        Given.retype(fifteen, "A=1;B=A+2;C=B+4;D=C+8;E=D;F=E;G=F;H=G;A=H;B=A;C=B;D=C;E=D;HH");
         checks.due("programError", 59, fifteen.programError());
     }
 
     private void traps() {
-        checks.due("A=1", NimberField.NONE, typed("A=1").trappedStep());
-        checks.due("A=~B", 0, typed("A=~B").trappedStep());
-        checks.due("A=~0", 0, typed("A=~0").trappedStep());
-        checks.due("A=0/0", 0, typed("A=0/0").trappedStep());
-        checks.due("A=1/B", 0, typed("A=1/B").trappedStep());
-        checks.due("A=0/1", NimberField.NONE, typed("A=0/1").trappedStep());
-        checks.due("A=%0", NimberField.NONE, typed("A=%0").trappedStep());
-        checks.due("A=0^0", NimberField.NONE, typed("A=0^0").trappedStep());
-        checks.due("A=0*0", NimberField.NONE, typed("A=0*0").trappedStep());
-        checks.due("A=5;B=~A", NimberField.NONE, typed("A=5;B=~A").trappedStep());
-        checks.due("A=5;A=A+A;B=~A;C=~D", 2, typed("A=5;A=A+A;B=~A;C=~D").trappedStep());
-        NimberField x = typed("B=1/A;A=B+B;C=A/A");
+        checks.due("A=1", NimberField.NONE, Given.program("A=1").trappedStep());
+        checks.due("A=~B", 0, Given.program("A=~B").trappedStep());
+        checks.due("A=~0", 0, Given.program("A=~0").trappedStep());
+        checks.due("A=0/0", 0, Given.program("A=0/0").trappedStep());
+        checks.due("A=1/B", 0, Given.program("A=1/B").trappedStep());
+        checks.due("A=0/1", NimberField.NONE, Given.program("A=0/1").trappedStep());
+        checks.due("A=%0", NimberField.NONE, Given.program("A=%0").trappedStep());
+        checks.due("A=0^0", NimberField.NONE, Given.program("A=0^0").trappedStep());
+        checks.due("A=0*0", NimberField.NONE, Given.program("A=0*0").trappedStep());
+        checks.due("A=5;B=~A", NimberField.NONE, Given.program("A=5;B=~A").trappedStep());
+        checks.due("A=5;A=A+A;B=~A;C=~D", 2, Given.program("A=5;A=A+A;B=~A;C=~D").trappedStep());
+        NimberField x = Given.program("B=1/A;A=B+B;C=A/A");
         checks.due("trappedStep", 0, x.trappedStep());
         x.set(0, 40000);
         checks.due("trappedStep", 2, x.trappedStep());
@@ -201,7 +188,7 @@ public final class ProgramTest {
     }
 
     private void carryingOut() {
-        NimberField x = typed("A=5;B=~A;C=A*B;D=%A;E=D^2;F=E+A");
+        NimberField x = Given.program("A=5;B=~A;C=A*B;D=%A;E=D^2;F=E+A");
         checks.due("carryOut", 0, x.carryOut());
         checks.due("A", 5, x.nimberOf(0));
         checks.due("A B", 1, Reference.times(5, x.nimberOf(1)));
@@ -210,7 +197,7 @@ public final class ProgramTest {
         checks.due("E", 5, x.nimberOf(4));
         checks.due("F", 0, x.nimberOf(5));
         checks.due("the program stays", 31, x.clearProgram());
-        retype(x, "H=A;A=A*A");
+        Given.retype(x, "H=A;A=A*A");
         checks.due("carryOut", Reference.square(5), x.carryOut());
         checks.due("carryOut again", Reference.power(5, 4), x.carryOut());
         checks.due("H", Reference.square(5), x.nimberOf(7));
@@ -244,7 +231,7 @@ public final class ProgramTest {
     }
 
     private void dueResult(String program, int a, int b, int due) {
-        NimberField x = typed(program);
+        NimberField x = Given.program(program);
         x.set(0, a);
         x.set(1, b);
         checks.due("trappedStep of " + program, NimberField.NONE, x.trappedStep());
@@ -256,7 +243,7 @@ public final class ProgramTest {
     }
 
     private void countingProducts() {
-        NimberField x = typed("A=2*3;B=A*A;C=B/3;D=A^5;E=A+B;A=0*0");
+        NimberField x = Given.program("A=2*3;B=A*A;C=B/3;D=A^5;E=A+B;A=0*0");
         checks.due("trappedStep", NimberField.NONE, x.trappedStep());
         checks.due("products of a trial", 0, x.products());
         x.carryOut();
@@ -265,13 +252,13 @@ public final class ProgramTest {
         checks.due("products", 6, x.products());
         x.undo();
         checks.due("products", 3, x.products());
-        retype(x, "A=1*1;B=~0");
+        Given.retype(x, "A=1*1;B=~0");
         checks.stateThrow("carryOut", x::carryOut);
         checks.due("products", 3, x.products());
     }
 
     private void carryOutIsOneAction() {
-        NimberField x = typed("A=1;B=2;C=3;D=4;E=5;F=6");
+        NimberField x = Given.program("A=1;B=2;C=3;D=4;E=5;F=6");
         x.carryOut();
         checks.due("recordedStates", 1, x.recordedStates());
         checks.due("sumOfAll", 1 ^ 2 ^ 3 ^ 4 ^ 5 ^ 6, x.sumOfAll());
@@ -281,7 +268,7 @@ public final class ProgramTest {
     }
 
     private void notCarriedOut() {
-        NimberField x = typed("A=7;B=A*A;C=1/D");
+        NimberField x = Given.program("A=7;B=A*A;C=1/D");
         x.set(1, 9);
         checks.stateThrow("carryOut", x::carryOut);
         checks.due("A", 0, x.nimberOf(0));

@@ -79,7 +79,8 @@ final class Reference {
         return sum;
     }
 
-    private static int generator() {
+    /** A nimber whose powers are all nimbers but 0. */
+    static int generator() {
         for (int n = 2; n < COUNT; n++) {
             if (slowOrder(n) == COUNT - 1) {
                 return n;

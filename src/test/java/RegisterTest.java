@@ -20,14 +20,6 @@ public final class RegisterTest {
         test.checks.end();
     }
 
-    private static NimberField with(int... nimbers) {
-        NimberField x = new NimberField();
-        for (int register = 0; register < nimbers.length; register++) {
-            x.set(register, nimbers[register]);
-        }
-        return x;
-    }
-
     private void dueRegisters(String what, NimberField x, int... due) {
         for (int register = 0; register < 8; register++) {
             int nimber = register < due.length ? due[register] : 0;
@@ -65,7 +57,7 @@ public final class RegisterTest {
     }
 
     private void inverting() {
-        NimberField x = with(2, 1, 65535);
+        NimberField x = Given.registers(2, 1, 65535);
         checks.due("invert(0)", 3, x.invert(0));
         checks.due("invert(1)", 1, x.invert(1));
         checks.due("invert(2)", 1280, x.invert(2));
@@ -78,7 +70,7 @@ public final class RegisterTest {
     }
 
     private void takingRoots() {
-        NimberField x = with(3, 0, 65535);
+        NimberField x = Given.registers(3, 0, 65535);
         checks.due("takeRoot(0)", 2, x.takeRoot(0));
         checks.due("takeRoot(1)", 0, x.takeRoot(1));
         checks.due("takeRoot(2)", 47281, x.takeRoot(2));
@@ -90,7 +82,7 @@ public final class RegisterTest {
     }
 
     private void multiplying() {
-        NimberField x = with(5, 300, 0, 256);
+        NimberField x = Given.registers(5, 300, 0, 256);
         checks.due("multiply(0, 1)", 1441, x.multiply(0, 1));
         dueRegisters("multiply", x, 1441, 300, 0, 256);
         checks.due("multiply(3, 3)", 384, x.multiply(3, 3));
@@ -105,7 +97,7 @@ public final class RegisterTest {
     }
 
     private void exchanging() {
-        NimberField x = with(1, 2, 3);
+        NimberField x = Given.registers(1, 2, 3);
         checks.due("exchange(0, 2)", 3, x.exchange(0, 2));
         dueRegisters("exchange", x, 3, 2, 1);
         checks.due("exchange(2, 7)", 0, x.exchange(2, 7));
@@ -118,21 +110,21 @@ public final class RegisterTest {
     }
 
     private void sums() {
-        checks.due("sumOfAll", 7, with(1, 2, 4).sumOfAll());
-        checks.due("sumOfAll", 0, with(1, 2, 3).sumOfAll());
-        checks.due("sumOfAll", 65535, with(0, 0, 0, 65280, 0, 0, 0, 255).sumOfAll());
-        checks.due("sumOfAll", 0, with(9, 9, 9, 9, 9, 9, 9, 9).sumOfAll());
+        checks.due("sumOfAll", 7, Given.registers(1, 2, 4).sumOfAll());
+        checks.due("sumOfAll", 0, Given.registers(1, 2, 3).sumOfAll());
+        checks.due("sumOfAll", 65535, Given.registers(0, 0, 0, 65280, 0, 0, 0, 255).sumOfAll());
+        checks.due("sumOfAll", 0, Given.registers(9, 9, 9, 9, 9, 9, 9, 9).sumOfAll());
     }
 
     private void lessening() {
-        checks.due("registerToLessen", 0, with(7, 7, 7).registerToLessen());
-        checks.due("registerToLessen", 2, with(1, 2, 4).registerToLessen());
-        checks.due("registerToLessen", 7, with(1, 2, 4, 0, 0, 0, 0, 65535).registerToLessen());
-        checks.due("registerToLessen", NimberField.NONE, with(1, 2, 3).registerToLessen());
-        checks.due("registerToLessen", 1, with(4, 8, 8, 8).registerToLessen());
-        checks.due("registerToLessen", 0, with(3, 1).registerToLessen());
-        checks.due("registerToLessen", 1, with(1, 3).registerToLessen());
-        NimberField x = with(3, 5, 9);
+        checks.due("registerToLessen", 0, Given.registers(7, 7, 7).registerToLessen());
+        checks.due("registerToLessen", 2, Given.registers(1, 2, 4).registerToLessen());
+        checks.due("registerToLessen", 7, Given.registers(1, 2, 4, 0, 0, 0, 0, 65535).registerToLessen());
+        checks.due("registerToLessen", NimberField.NONE, Given.registers(1, 2, 3).registerToLessen());
+        checks.due("registerToLessen", 1, Given.registers(4, 8, 8, 8).registerToLessen());
+        checks.due("registerToLessen", 0, Given.registers(3, 1).registerToLessen());
+        checks.due("registerToLessen", 1, Given.registers(1, 3).registerToLessen());
+        NimberField x = Given.registers(3, 5, 9);
         int chosen = x.registerToLessen();
         checks.due("registerToLessen", 2, chosen);
         x.set(chosen, x.nimberOf(chosen) ^ x.sumOfAll());
@@ -140,7 +132,7 @@ public final class RegisterTest {
     }
 
     private void countingProducts() {
-        NimberField x = with(3, 5);
+        NimberField x = Given.registers(3, 5);
         for (int count = 1; count <= 6; count++) {
             x.multiply(0, 1);
             checks.due("products", count, x.products());
@@ -159,7 +151,7 @@ public final class RegisterTest {
     }
 
     private void wrongRegisters() {
-        NimberField x = with(11, 12);
+        NimberField x = Given.registers(11, 12);
         for (int no : NO_REGISTERS) {
             checks.indexThrow("set", () -> x.set(no, 1));
             checks.indexThrow("invert", () -> x.invert(no));

@@ -15,12 +15,6 @@ public final class UndoTest {
         test.checks.end();
     }
 
-    private static void type(NimberField x, String program) {
-        for (int index = 0; index < program.length(); index++) {
-            x.type(program.charAt(index));
-        }
-    }
-
     private void onlyFourAreKept() {
         NimberField x = new NimberField();
         for (int count = 1; count <= 9; count++) {
@@ -55,7 +49,7 @@ public final class UndoTest {
         NimberField x = new NimberField();
         checks.stateThrow("undo", x::undo);
         x.takeSnapshot();
-        type(x, "A=1");
+        Given.type(x, "A=1");
         checks.stateThrow("undo", x::undo);
         checks.due("length", 3, x.clearProgram());
     }
@@ -95,7 +89,7 @@ public final class UndoTest {
         x.undo();
         checks.due("register 0", 1, x.nimberOf(0));
         checks.due("restoreSnapshot", 3, x.restoreSnapshot());
-        type(x, "B=4");
+        Given.type(x, "B=4");
         checks.due("undo", 1, x.undo());
         checks.due("the program stays with undo", 4, x.carryOut());
         checks.due("restoreSnapshot", 3, x.restoreSnapshot());
@@ -119,7 +113,7 @@ public final class UndoTest {
 
     private void whatIsNoAction() {
         NimberField x = new NimberField();
-        type(x, "A=1;B=1/A");
+        Given.type(x, "A=1;B=1/A");
         x.programError();
         x.trappedStep();
         x.takeSnapshot();
@@ -143,7 +137,7 @@ public final class UndoTest {
         x.multiply(0, 0);
         x.set(1, 9);
         x.set(2, 10);
-        type(x, "C=5*5;D=1/H");
+        Given.type(x, "C=5*5;D=1/H");
         checks.indexThrow("set", () -> x.set(8, 1));
         checks.argumentThrow("set", () -> x.set(0, 65536));
         checks.indexThrow("invert", () -> x.invert(-1));
@@ -179,7 +173,7 @@ public final class UndoTest {
 
     private void fullProgram() {
         NimberField x = new NimberField();
-        type(x, "A=1;".repeat(14) + "B=77");
+        Given.type(x, "A=1;".repeat(14) + "B=77");
         checks.stateThrow("type", () -> x.type('7'));
         checks.due("programError", NimberField.NONE, x.programError());
         checks.due("carryOut", 77, x.carryOut());
